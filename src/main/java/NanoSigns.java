@@ -385,8 +385,11 @@ public final class NanoSigns {
 
         /** Half of a number not below 0, without what is left. */
         void halve() {
-            for (int i = 0; i < SIZE; i++) {
-                limbs[i] = (limbs[i] >>> 1) | ((limb(i + 1) & 1) << (LIMB_BITS - 1));
+            long fallen = 0;
+            for (int i = SIZE - 1; i >= 0; i--) {
+                long limb = limbs[i];
+                limbs[i] = (limb >>> 1) | (fallen << (LIMB_BITS - 1));
+                fallen = limb & 1;
             }
         }
 
@@ -774,8 +777,19 @@ public final class NanoSigns {
         private final Whole right = new Whole();
         private final Whole quotient = new Whole();
         private final Whole shifted = new Whole();
+        private Segment measured;
+        private Segment measuredWith;
 
+        /** A caller asks for the limbs one by one, and segments never change: so it is done once. */
         void measure(Segment s, Segment t) {
+            if (s != measured || t != measuredWith) {
+                measureAnew(s, t);
+                measured = s;
+                measuredWith = t;
+            }
+        }
+
+        private void measureAnew(Segment s, Segment t) {
             if (isParted(s, t) && isParted(t, s)) {
                 above.setTo(0);
                 below.setTo(1);
