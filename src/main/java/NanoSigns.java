@@ -45,7 +45,7 @@ public final class NanoSigns {
         if (ax == bx && ay == by) {
             throw new IllegalArgumentException("the places are the same");
         }
-        return shapeCount >= MOST ? NONE : keep(new Segment(ax, ay, bx, by));
+        return keep(new Segment(ax, ay, bx, by));
     }
 
     public int arc(long cx, long cy, long r, int from, int to) throws IllegalArgumentException {
@@ -58,7 +58,7 @@ public final class NanoSigns {
         if (!isDirection(from) || !isDirection(to)) {
             throw new IllegalArgumentException("no such direction");
         }
-        return shapeCount >= MOST ? NONE : keep(new Arc(cx, cy, r, from, to));
+        return keep(new Arc(cx, cy, r, from, to));
     }
 
     public long distance(int a, int b, int part, int limb)
@@ -410,6 +410,13 @@ public final class NanoSigns {
         long factor;
         private final Whole factorSquare = new Whole();
 
+        void setTo(Rooted other) {
+            plain.setTo(other.plain);
+            square.setTo(other.square);
+            side = other.side;
+            factor = other.factor;
+        }
+
         void setRoot(long newFactor, Whole radicand) {
             factor = newFactor;
             side = Long.signum(newFactor) * radicand.sign();
@@ -426,61 +433,54 @@ public final class NanoSigns {
 
         private final Whole size = new Whole();
         private final Whole sizeSquare = new Whole();
-        private final Whole rest = new Whole();
-        private final Whole next = new Whole();
+        private final Rooted rest = new Rooted();
         private final Whole step = new Whole();
-        private final Whole square = new Whole();
 
         int sign(Rooted value) {
-            return signOf(value.plain, value.side, value.square);
-        }
-
-        private int signOf(Whole plain, int side, Whole rootSquare) {
-            int plainSide = plain.sign();
-            if (side == 0 || plainSide == side) {
+            int plainSide = value.plain.sign();
+            if (value.side == 0 || plainSide == value.side) {
                 return plainSide;
             }
             if (plainSide == 0) {
-                return side;
+                return value.side;
             }
-            size.setTo(plain);
+            size.setTo(value.plain);
             if (plainSide < 0) {
+                // its square is the same, but found sooner: its high limbs are 0
                 size.negate();
             }
             sizeSquare.setToProduct(size, size);
-            return plainSide * sizeSquare.against(rootSquare);
+            return plainSide * sizeSquare.against(value.square);
         }
 
         /** A rooted number divided by one above 0, rounded: the answer is found bit by bit. */
         long rounded(Rooted value, Whole below, int how) {
-            rest.setTo(value.plain);
+            rest.setTo(value);
             step.setTo(below);
-            square.setTo(value.square);
             if (how == NEAREST) {
                 addHalf(below);
             }
             step.shiftLeft(TOP_BIT);
-            rest.add(step);
+            rest.plain.add(step);
             long found = -(1L << TOP_BIT);
             for (int bit = TOP_BIT; bit >= 0; bit--) {
-                next.setTo(rest);
-                next.subtract(step);
-                if (signOf(next, value.side, square) >= 0) {
-                    rest.setTo(next);
+                rest.plain.subtract(step);
+                if (sign(rest) >= 0) {
                     found += 1L << bit;
+                } else {
+                    rest.plain.add(step);
                 }
                 step.halve();
             }
-            boolean exact = signOf(rest, value.side, square) == 0;
-            return how == UP && !exact ? found + 1 : found;
+            return how == UP && sign(rest) != 0 ? found + 1 : found;
         }
 
         /** Doubles both parts of the fraction, so that a half of it is whole. */
         private void addHalf(Whole below) {
-            rest.shiftLeft(1);
-            rest.add(below);
+            rest.plain.shiftLeft(1);
+            rest.plain.add(below);
+            rest.square.shiftLeft(2);
             step.shiftLeft(1);
-            square.shiftLeft(2);
         }
     }
 
@@ -642,7 +642,10 @@ public final class NanoSigns {
             }
         }
 
-        /** The segment's point at t is on the circle where below t t + 2 along t + .. is 0. */
+        /**
+         * With d the way of the segment and f the one from the centre to its first place, f + t d is
+         * on the circle where t is (-along and the root of the radicand, or less it) over below.
+         */
         void ofSegmentAndArc(Segment s, Arc arc) {
             long fx = s.ax - arc.cx;
             long fy = s.ay - arc.cy;
@@ -680,7 +683,7 @@ public final class NanoSigns {
             return roots.sign(end) <= 0;
         }
 
-        /** The points are on a line across the way e between the centres, along / below far on it. */
+        /** Both points lie along / below of the way e between the centres, and then to its sides. */
         void ofArcs(Arc a, Arc b) {
             long ex = b.cx - a.cx;
             long ey = b.cy - a.cy;

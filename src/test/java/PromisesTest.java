@@ -384,14 +384,21 @@ public final class PromisesTest {
         Due.is("7 the arc named first", "2: 5 0, -5 0", () -> met(n, 0, 2));
         Due.is("7 from the first place, to the right", "2: -4 3, 4 3", () -> met(n, 3, 0));
         Due.is("7 only the right one", "1: 3 -4", () -> met(n, 5, 1));
+        int touching = n.segment(-9, 3, -20, 3);
+        int roots = n.segment(-9, 1, 9, 2);
+        int upright = n.segment(1, -1, 2, 1);
+        Due.is("7 roots", "2: -5..-4 1..2, 4..5 1..2", () -> met(n, roots, 0));
+        Due.is("7 one point after roots", "1: -9 3", () -> met(n, 3, touching));
+        Due.is("7 roots", "2: -5..-4 1..2, 4..5 1..2", () -> met(n, 0, roots));
+        Due.is("7 segments after roots", "1: 1..2 0", () -> met(n, upright, 2));
         Due.fails("7 no shape", IOOBE, () -> n.cross(-1, 0));
-        Due.fails("7 no shape 6", IOOBE, () -> n.cross(6, 0));
+        Due.fails("7 no shape 9", IOOBE, () -> n.cross(9, 0));
         Due.fails("7 no second shape", IOOBE, () -> n.cross(0, -1));
-        Due.fails("7 no second shape 6", IOOBE, () -> n.cross(0, 6));
+        Due.fails("7 no second shape 9", IOOBE, () -> n.cross(0, 9));
         Due.fails("7 no shapes far", IOOBE, () -> n.cross(Integer.MAX_VALUE, Integer.MIN_VALUE));
         Due.is("7 crossed again", 2, () -> n.cross(0, 1));
         Due.is("7 a point", 3, () -> n.at(0, 0, 0));
-        Due.fails("7 no shape", IOOBE, () -> n.cross(0, 6));
+        Due.fails("7 no shape", IOOBE, () -> n.cross(0, 9));
         Due.fails("7 nothing is crossed with no shape", ISE, () -> n.at(0, 0, 0));
         Due.is("7 crossed once more", 2, () -> n.cross(0, 1));
         Due.fails("7 can't", IAE, () -> n.cross(0, 5));
@@ -452,13 +459,15 @@ public final class PromisesTest {
 
     private static void promise9() {
         NanoSigns n = with(places(0, 0, 6, 4), places(0, 0, 25, 0, 2), places(-E, -E, E, E), places(E, E, R, 0, 0),
-            places(3, 3, 3, 9), places(1, 1, 2, 3, 3), places(0, 0, 50, 1, 3));
+            places(3, 3, 3, 9), places(1, 1, 2, 3, 3), places(0, 0, 50, 1, 3), places(2, 1, 8, 1));
         Due.is("9 first", true, () -> n.on(0, 0, 0));
         Due.is("9 last", true, () -> n.on(0, 6, 4));
         Due.is("9 middle", true, () -> n.on(0, 3, 2));
         Due.is("9 beside", false, () -> n.on(0, 3, 3));
         Due.is("9 behind", false, () -> n.on(0, 9, 6));
         Due.is("9 before", false, () -> n.on(0, -3, -2));
+        Due.is("9 level", "true true false false", () -> n.on(7, 2, 1) + " " + n.on(7, 8, 1) + " " + n.on(7, 1, 1)
+            + " " + n.on(7, 9, 1));
         Due.is("9 upright", true, () -> n.on(4, 3, 5));
         Due.is("9 above it", false, () -> n.on(4, 3, 10));
         Due.is("9 below it", false, () -> n.on(4, 3, 2));
@@ -478,11 +487,11 @@ public final class PromisesTest {
         Due.is("9 r is not 2^64 more", false, () -> n.on(1, 1L << 32, 5));
         Due.is("9 far", false, () -> n.on(3, -E, -E));
         Due.fails("9 shape -1", IOOBE, () -> n.on(-1, 0, 0));
-        Due.fails("9 shape 7", IOOBE, () -> n.on(7, 0, 0));
+        Due.fails("9 shape 8", IOOBE, () -> n.on(8, 0, 0));
         Due.fails("9 x", IAE, () -> n.on(0, E + 1, 0));
         Due.fails("9 y", IAE, () -> n.on(1, 0, -E - 1));
         Due.fails("9 y least", IAE, () -> n.on(1, 0, Long.MIN_VALUE));
-        Due.fails("9 both", IOOBE, () -> n.on(7, E + 1, 0));
+        Due.fails("9 both", IOOBE, () -> n.on(8, E + 1, 0));
     }
 
     private static String over(long a, long b) {
