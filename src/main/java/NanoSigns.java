@@ -654,7 +654,7 @@ public final class NanoSigns {
             below.setToDot(s.dx, s.dy, s.dx, s.dy);
             along.setToDot(fx, fy, s.dx, s.dy);
             aside.setToCross(s.dx, s.dy, fx, fy);
-            setRadicand(arc.r, aside);
+            setRadicand(arc.r, 0, aside);
             if (radicand.sign() >= 0) {
                 meetSegmentAndArc(s, arc, -1);
             }
@@ -700,7 +700,7 @@ public final class NanoSigns {
             below.shiftLeft(1);
             aside.setTo(along);
             aside.subtract(below);
-            setArcsRadicand(a.r);
+            setRadicand(a.r, 1, along);
             if (radicand.sign() >= 0) {
                 meetArcs(a, b, 1);
             }
@@ -725,20 +725,12 @@ public final class NanoSigns {
             baseY = y;
         }
 
-        /** The radicand is below times r, less a square. */
-        private void setRadicand(long r, Whole toSquare) {
+        /** The radicand is below times r, doubled so often, less a square: 2 r could be no long. */
+        private void setRadicand(long r, int doublings, Whole toSquare) {
             work.setTo(r);
+            work.shiftLeft(doublings);
             radicand.setToProduct(work, below);
             work.setToProduct(toSquare, toSquare);
-            radicand.subtract(work);
-        }
-
-        /** The radicand is 2 times below times r, less along squared: 2 r could be no long. */
-        private void setArcsRadicand(long r) {
-            work.setTo(r);
-            work.shiftLeft(1);
-            radicand.setToProduct(work, below);
-            work.setToProduct(along, along);
             radicand.subtract(work);
         }
 

@@ -441,8 +441,8 @@ public final class PromisesTest {
     }
 
     private static void promise8Edges() {
-        NanoSigns n = with(places(-E, 0, E, 0), places(0, 0, R, 0, 0), places(E, E, R, 0, 0), places(E - (1L << 31), E - 1,
-            E - (1L << 31), E), places(-E, -E, E, E - 1), places(-E, E, E, -E), places(0, 0, R - 1, 0, 0));
+        NanoSigns n = with(places(-E, 0, E, 0), places(0, 0, R, 0, 0), places(E, E, R, 0, 0),
+            places(E - (1L << 31), E - 1, E - (1L << 31), E), places(-E, -E, E, E - 1), places(-E, E, E, -E), places(0, 0, R - 1, 0, 0));
         Due.is("8 cross", 2, () -> n.cross(0, 1));
         Due.is("8 2^31 below 0", "-2147483648 -2147483648 -2147483648", () -> ways(n, 0, 0));
         Due.is("8 2^31", "2147483648 2147483648 2147483648", () -> ways(n, 1, 0));

@@ -71,7 +71,8 @@ public final class RandomRunsTest {
             long v = kind < 10 ? u : Math.floorMod(any(), side);
             return u * u + v * v;
         }
-        return kind < 50 ? Math.floorMod(any(), Math.min(spread, 1L << 30) * Math.min(spread, 1L << 30)) + 1 : any() >>> (2 + below(20));
+        long most = Math.min(spread, 1L << 30);
+        return kind < 50 ? Math.floorMod(any(), most * most) + 1 : any() >>> (2 + below(20));
     }
 
     private long wide() {
