@@ -295,7 +295,8 @@ public final class NanoSigns {
 
         void setToCross(long ux, long uy, long vx, long vy) {
             setTo(0);
-            addCross(ux, uy, vx, vy);
+            addProduct(ux, vy);
+            addProduct(-uy, vx);
         }
 
         void setToDot(long ux, long uy, long vx, long vy) {
@@ -777,14 +778,11 @@ public final class NanoSigns {
 
         /** A caller asks for the limbs one by one, and segments never change: so it is done once. */
         void measure(Segment s, Segment t) {
-            if (s != measured || t != measuredWith) {
-                measureAnew(s, t);
-                measured = s;
-                measuredWith = t;
+            if (s == measured && t == measuredWith) {
+                return;
             }
-        }
-
-        private void measureAnew(Segment s, Segment t) {
+            measured = s;
+            measuredWith = t;
             if (isParted(s, t) && isParted(t, s)) {
                 above.setTo(0);
                 below.setTo(1);

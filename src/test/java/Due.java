@@ -25,8 +25,18 @@ final class Due {
         asked++;
         if (!Objects.equals(want, got)) {
             wrong++;
-            System.out.println(what + " answered " + got + ", due is " + want);
+            System.out.println(asker() + ": " + what + " answered " + got + ", due is " + want);
         }
+    }
+
+    /** The test's method and line that ask: the texts of the calls alone are not all unlike. */
+    private static String asker() {
+        for (StackTraceElement frame : new Throwable().getStackTrace()) {
+            if (!frame.getClassName().equals(Due.class.getName())) {
+                return frame.getMethodName() + ", line " + frame.getLineNumber();
+            }
+        }
+        return "";
     }
 
     static void is(String what, Object want, Call call) {

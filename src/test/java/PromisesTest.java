@@ -1,14 +1,7 @@
 import java.math.BigInteger;
 
 /** Each promise by hand: ordinary inputs, the edges that the document names, wrong inputs. */
-public final class PromisesTest {
-    private static final long E = 1L << 40;
-    private static final long R = 1L << 62;
-    private static final Class<IllegalArgumentException> IAE = IllegalArgumentException.class;
-    private static final Class<IndexOutOfBoundsException> IOOBE = IndexOutOfBoundsException.class;
-    private static final Class<IllegalStateException> ISE = IllegalStateException.class;
-    private static final Class<ArithmeticException> AE = ArithmeticException.class;
-
+public final class PromisesTest extends Asking {
     private PromisesTest() {
     }
 
@@ -124,29 +117,6 @@ public final class PromisesTest {
         Due.is("4 what was wrong made no shape", 0, () -> both[1].arc(0, 0, 1, 0, 0));
     }
 
-    private static String fraction(NanoSigns n, int a, int b) {
-        BigInteger[] parts = {BigInteger.ZERO, BigInteger.ZERO};
-        for (int part = 0; part < 2; part++) {
-            for (int limb = 5; limb >= 0; limb--) {
-                parts[part] = parts[part].shiftLeft(32).add(BigInteger.valueOf(n.distance(a, b, part, limb)));
-            }
-        }
-        return parts[0] + "/" + parts[1];
-    }
-
-    private static String apart(long[] s, long[] t) {
-        NanoSigns n = new NanoSigns();
-        int a = n.segment(s[0], s[1], s[2], s[3]);
-        int b = n.segment(t[0], t[1], t[2], t[3]);
-        String there = fraction(n, a, b);
-        String back = fraction(n, b, a);
-        return there.equals(back) ? there : there + " but back " + back;
-    }
-
-    private static long[] places(long... all) {
-        return all;
-    }
-
     private static void promise5() {
         Due.is("5 side by side", "9/1", () -> apart(places(0, 0, 10, 0), places(3, 3, 7, 3)));
         Due.is("5 end to end", "25/1", () -> apart(places(0, 0, 10, 0), places(13, 4, 20, 9)));
@@ -245,38 +215,6 @@ public final class PromisesTest {
             p = a + 2 * b;
             q = a + b;
         }
-    }
-
-    private static NanoSigns with(long[]... shapes) {
-        NanoSigns n = new NanoSigns();
-        for (long[] s : shapes) {
-            if (s.length == 4) {
-                n.segment(s[0], s[1], s[2], s[3]);
-            } else {
-                n.arc(s[0], s[1], s[2], (int) s[3], (int) s[4]);
-            }
-        }
-        return n;
-    }
-
-    /** Crosses two shapes, and tells each point rounded down and up, in one where both are the same. */
-    private static String met(long[] a, long[] b) {
-        return met(with(a, b), 0, 1);
-    }
-
-    private static String met(NanoSigns n, int a, int b) {
-        StringBuilder text = new StringBuilder();
-        int count = n.cross(a, b);
-        text.append(count);
-        for (int k = 0; k < count; k++) {
-            text.append(k == 0 ? ": " : ", ");
-            for (int axis = 0; axis < 2; axis++) {
-                long down = n.at(k, axis, 0);
-                long up = n.at(k, axis, 1);
-                text.append(axis == 0 ? "" : " ").append(down == up ? "" + down : down + ".." + up);
-            }
-        }
-        return text.toString();
     }
 
     private static void promise7Segments() {
@@ -405,10 +343,6 @@ public final class PromisesTest {
         Due.fails("7 nothing is crossed when it can't be", ISE, () -> n.at(0, 0, 0));
     }
 
-    private static String ways(NanoSigns n, int k, int axis) {
-        return n.at(k, axis, 0) + " " + n.at(k, axis, 1) + " " + n.at(k, axis, 2);
-    }
-
     private static void promise8() {
         NanoSigns n = with(places(-5, 0, 5, 0), places(0, 0, 2, 0, 0), places(0, 0, 1, 1), places(0, 1, 1, 0),
             places(0, 0, -1, -1), places(0, -1, -1, 0), places(9, 9, 10, 10), places(0, 0, 3, 1), places(1, 0, 1, 5));
@@ -494,11 +428,6 @@ public final class PromisesTest {
         Due.fails("9 both", IOOBE, () -> n.on(8, E + 1, 0));
     }
 
-    private static String over(long a, long b) {
-        NanoSigns n = new NanoSigns();
-        return n.over(a, b, 0) + " " + n.over(a, b, 1) + " " + n.over(a, b, 2);
-    }
-
     private static void promise10() {
         NanoSigns n = new NanoSigns();
         long max = Long.MAX_VALUE;
@@ -534,11 +463,6 @@ public final class PromisesTest {
         Due.fails("10 no way 3", IOOBE, () -> n.over(6, 2, 3));
         Due.fails("10 no way -1", IOOBE, () -> n.over(7, 2, -1));
         Due.fails("10 no way, least by -1", IOOBE, () -> n.over(min, -1, 3));
-    }
-
-    private static String root(long v) {
-        NanoSigns n = new NanoSigns();
-        return n.root(v, 0) + " " + n.root(v, 1) + " " + n.root(v, 2);
     }
 
     private static void promise11() {
@@ -582,25 +506,6 @@ public final class PromisesTest {
         Due.is("12 shapes are no corners", 0, () -> o.segment(0, 0, 1, 1));
         Due.is("12 ordinary", true, () -> o.corner(5, 5) && o.corner(7, 5) && o.corner(5, 8));
         Due.is("12 what was wrong is no corner", 6, () -> area(o));
-    }
-
-    /** The area twice, from its limbs. */
-    private static BigInteger area(NanoSigns n) {
-        BigInteger all = BigInteger.ZERO;
-        for (int limb = 3; limb >= 0; limb--) {
-            all = all.shiftLeft(32).add(BigInteger.valueOf(n.area(limb)));
-        }
-        return all.testBit(127) ? all.subtract(BigInteger.ONE.shiftLeft(128)) : all;
-    }
-
-    private static NanoSigns polygon(int times, long... all) {
-        NanoSigns n = new NanoSigns();
-        for (int t = 0; t < times; t++) {
-            for (int i = 0; i < all.length; i += 2) {
-                n.corner(all[i], all[i + 1]);
-            }
-        }
-        return n;
     }
 
     private static void promise13() {
