@@ -8,6 +8,8 @@ import java.util.ArrayList;
 import java.util.HashSet;
 import java.util.List;
 import java.util.Set;
+import java.util.regex.Matcher;
+import java.util.regex.Pattern;
 
 /** README.md's examples answer what stands behind them, and README.md tells of every call. */
 public final class ReadmeTest {
@@ -26,7 +28,7 @@ public final class ReadmeTest {
         Due.end();
     }
 
-    private static void runShapes(NanoSigns n) {
+    private static void runShapes(NanoSigns n) throws IOException {
         int line = n.segment(-9, 3, 9, 3);
         int circle = n.arc(0, 0, 25, 0, 0);
         int quarter = n.arc(0, 0, 25, 0, 2);
@@ -38,21 +40,29 @@ public final class ReadmeTest {
         int sign = n.compare(1, 1, 2, 2);
         long half = n.over(-7, 2, 2);
         long root = n.root(8, 1);
-        Due.is("line", 0, () -> line);
-        Due.is("circle", 1, () -> circle);
-        Due.is("quarter", 2, () -> quarter);
-        Due.is("points", 2, () -> points);
-        Due.is("x", -4, () -> x);
-        Due.is("fewer", 1, () -> fewer);
+        told("line", line);
+        told("circle", circle);
+        told("quarter", quarter);
+        told("points", points);
+        told("x", x);
+        told("fewer", fewer);
         Due.is("at of the later crossing", 4, () -> n.at(0, 0, 2));
-        Due.is("there", true, () -> there);
-        Due.is("side", 1, () -> side);
-        Due.is("sign", 1, () -> sign);
-        Due.is("half", -3, () -> half);
-        Due.is("root", 3, () -> root);
+        told("there", there);
+        told("side", side);
+        told("sign", sign);
+        told("half", half);
+        told("root", root);
     }
 
-    private static void runLimbs(NanoSigns n) {
+    /** The answer stands behind its call in README.md, up to a comma or the line's end. */
+    private static void told(String name, Object answer) throws IOException {
+        Pattern example = Pattern.compile("^\\w+ " + name + " = .*; +// ([^,\n]*)", Pattern.MULTILINE);
+        Matcher found = example.matcher(Files.readString(README));
+        Due.same(name, found.find() ? found.group(1) : "not in README.md", String.valueOf(answer));
+    }
+
+    private static void runLimbs(NanoSigns n) throws IOException {
+        String readme = Files.readString(README);
         int steep = n.segment(0, 0, 4, 4);
         int level = n.segment(5, 0, 9, 0);
         BigInteger above = BigInteger.ZERO;
@@ -61,7 +71,8 @@ public final class ReadmeTest {
             above = above.shiftLeft(32).add(BigInteger.valueOf(n.distance(steep, level, 0, limb)));
             below = below.shiftLeft(32).add(BigInteger.valueOf(n.distance(steep, level, 1, limb)));
         }
-        Due.same("above and below", "25/2", above + "/" + below);
+        String distance = "// above " + above + ", below " + below + ":";
+        Due.is(distance, true, () -> readme.contains(distance));
 
         n.corner(0, 0);
         n.corner(4, 4);
@@ -71,7 +82,8 @@ public final class ReadmeTest {
             twice = twice.shiftLeft(32).add(BigInteger.valueOf(n.area(limb)));
         }
         twice = twice.testBit(127) ? twice.subtract(BigInteger.ONE.shiftLeft(128)) : twice;
-        Due.same("twice", "-16", twice.toString());
+        String area = "// twice " + twice + ":";
+        Due.is(area, true, () -> readme.contains(area));
 
         n.clear();
         Due.is("area when cleared", 0, () -> n.area(0));
